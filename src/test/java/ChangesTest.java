@@ -7,6 +7,7 @@ final class ChangesTest {
         settings();
         settingsRefuse();
         buildReplacesTheStreets();
+        buildLeavesNothing();
         buildKeepsTheRest();
         buildRefuses();
         streetComes();
@@ -108,6 +109,29 @@ final class ChangesTest {
         Due.is("streets of before are gone", x.of(2, 0), HatWinds.NO_SUCH);
     }
 
+    private static void buildLeavesNothing() {
+        HatWinds x = Town.of("1*1(9e!*99,9(1d!*99))");
+        x.wind(200);
+        Due.is("windiest of before", x.windiest(), 1);
+        Town.put(x, "1*2");
+        Due.is("fewer streets", x.build(), 1);
+        x.wind(100);
+        Due.is("people of all", x.count(4), 2);
+        Due.is("hats of all", x.count(5), 2);
+        Due.is("shelters of all", x.count(6), 0);
+        Due.is("least force of all", x.count(7), 0);
+        Due.is("windiest of all", x.windiest(), 0);
+        Due.is("windFor all", x.windFor(3), HatWinds.NONE);
+        x.pass(1);
+        Due.is("most lost of all", x.record(0, 2), 0);
+        Due.is("behind the first", x.of(0, 6), 0);
+        x.street(0, 1);
+        int[] facts = {0, 1, 0, 0, 0, 0, 0, 1};
+        for (int what = 0; what < facts.length; what++) {
+            Due.is("a street where another was, of(1, " + what + ")", x.of(1, what), facts[what]);
+        }
+    }
+
     private static void buildKeepsTheRest() {
         HatWinds x = Town.of("1*50");
         x.set(HatWinds.HOLD, 10);
@@ -176,6 +200,10 @@ final class ChangesTest {
         Due.is("a 21st off none", x.street(20, 1), HatWinds.NO_SUCH);
         Due.is("20 streets", x.count(0), 20);
         Due.is("depth of the last", x.of(19, 7), 16);
+        x.wind(200);
+        Due.is("the force in the last", x.now(19, 0), 50);
+        Due.is("the windiest of all", x.windiest(), 1);
+        Due.is("hats in all", x.count(5), 0);
     }
 
     private static void change() {
@@ -244,7 +272,19 @@ final class ChangesTest {
         // Forces 33 and 71, gusts 42 and 92.
         Due.is("an hour of other widths", x.pass(1), 6 + 19);
         Due.is("where most are lost", x.record(0, 2), 2);
+        x.wind(0);
+        x.change(1, 2, 1);
+        x.change(2, 2, 0);
+        x.wind(200);
+        Due.is("an hour that takes one hat", x.pass(1), 1);
+        Due.is("where one is lost", x.record(0, 2), 1);
         Due.is("undone at once", x.undo(), 5);
+        Due.is("undone at once", x.undo(), 4);
+        Due.is("undone at once", x.undo(), 3);
+        Due.is("undone at once", x.undo(), 2);
+        Due.is("undone at once", x.undo(), 1);
+        Due.is("hats with the hour before", x.count(3), 73);
+        Due.is("undone at once", x.undo(), 0);
         Due.is("hats without it", x.count(3), 48);
         HatWinds y = Town.of("1*7");
         y.wind(200);
@@ -283,6 +323,10 @@ final class ChangesTest {
             Town.padIs(y, text);
             Due.is("written is no change", y.count(13), 1);
         }
+        String deep = "1(".repeat(19) + "1" + ")".repeat(19);
+        HatWinds d = Town.of(deep);
+        Due.is("write() of a long way", d.write(), 58);
+        Town.padIs(d, deep);
         HatWinds z = Town.of("5*0(6*0)");
         Town.put(z, "abcdefgh");
         Due.is("without people none are told", z.write(), 4);

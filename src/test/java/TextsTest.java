@@ -5,6 +5,7 @@ final class TextsTest {
         putRefuses();
         putFills();
         wipe();
+        textAfterText();
         goodTexts();
         badTexts();
         fullTexts();
@@ -60,6 +61,22 @@ final class TextsTest {
         Due.is("nothing is left", x.count(12), 0);
         Due.is("wipe() again", x.wipe(), 0);
         Due.is("it is no change", x.count(13), 0);
+    }
+
+    private static void textAfterText() {
+        HatWinds x = new HatWinds();
+        Town.put(x, "9e!*99(8d!*88(7c!*77");
+        Due.is("fault() in brackets", x.fault(), 20);
+        x.wipe();
+        Town.put(x, "1(2(3))");
+        Due.is("fault() of the next text", x.fault(), HatWinds.NONE);
+        Due.is("build() of the next text", x.build(), 3);
+        for (int street = 0; street < 3; street++) {
+            Due.is("its cloth", x.of(street, 2), 0);
+            Due.is("its smoke", x.of(street, 3), 0);
+            Due.is("its people", x.of(street, 4), 0);
+        }
+        Due.is("the first one is the top one", x.of(0, 0), HatWinds.NONE);
     }
 
     private static void faultIs(String text, int want) {

@@ -40,6 +40,20 @@ final class WhatIfTest {
             }
             Due.is("windFor(" + hats + ")", x.windFor(hats), least);
         }
+        HatWinds y = Town.of("1(1*9,1*9)");
+        Due.is("before anything else is asked", y.windFor(1), 34);
+        y.change(1, 3, 9);
+        Due.is("by other widths", y.windFor(1), 17);
+        y.change(1, 0, 1);
+        Due.is("the flag by these", y.windOfFlag(1, 1), 8);
+        y.change(2, 3, 9);
+        Due.is("the flag by others", y.windOfFlag(1, 1), 16);
+        y.change(2, 3, 1);
+        y.wind(100);
+        Due.is("the least by these", y.count(7), 2);
+        y.change(1, 3, 1);
+        y.change(2, 3, 2);
+        Due.is("the least by others", y.count(7), 1);
         Due.is("windFor(113)", x.windFor(113), 200);
         Due.is("windFor(114)", x.windFor(114), HatWinds.NONE);
         Due.is("windFor(999)", x.windFor(999), HatWinds.NONE);
