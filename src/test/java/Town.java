@@ -26,15 +26,16 @@ final class Town {
 
     static String pad(HatWinds x) {
         StringBuilder text = new StringBuilder();
-        for (int place = 0; x.sign(place) >= 0; place++) {
-            text.append((char) x.sign(place));
+        int sign = x.sign(0);
+        for (int place = 1; sign >= 0; place++) {
+            text.append((char) sign);
+            sign = x.sign(place);
         }
         return text.toString();
     }
 
     static void padIs(HatWinds x, String want) {
-        String got = pad(x);
-        Due.is("the pad '" + got + "' as '" + want + "'", got.equals(want) ? 1 : 0, 1);
+        Due.same("the pad", pad(x), want);
     }
 
     /** All that a town answers, but for the pad, the history and the slots. */
@@ -62,8 +63,6 @@ final class Town {
     }
 
     static void looksLike(String when, HatWinds x, String want) {
-        String got = look(x);
-        boolean same = got.equals(want);
-        Due.is(when + (same ? "" : ": looks like " + got + ", due is " + want + ";"), same ? 1 : 0, 1);
+        Due.same(when, look(x), want);
     }
 }
