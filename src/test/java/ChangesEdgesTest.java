@@ -266,6 +266,14 @@ final class ChangesEdgesTest {
         Edge.unchanged("81 signs by smoke", () -> with(10, 1, 1), HatWinds::write, HatWinds.TOO_MANY);
         Edge.unchanged("82 signs by people", () -> with(10, 2, 9), HatWinds::write, HatWinds.TOO_MANY);
         Edge.unchanged("as many signs as there can be", ChangesEdgesTest::longest, HatWinds::write, HatWinds.TOO_MANY);
+        HatWinds y = with(10, 0, 1);
+        Due.is("81 signs", y.write(), HatWinds.TOO_MANY);
+        y.undo();
+        Due.is("80 signs behind a refused write()", y.write(), 80);
+        Town.padIs(y, EIGHTY);
+        HatWinds z = Edge.chain(20);
+        Due.is("twenty streets in a row", z.write(), 58);
+        Town.padIs(z, "1(".repeat(19) + "1" + ")".repeat(19));
     }
 
     private static HatWinds with(int street, int what, int value) {

@@ -9,6 +9,8 @@ import java.nio.file.Path;
 import java.util.Arrays;
 import java.util.Set;
 import java.util.TreeSet;
+import java.util.regex.Matcher;
+import java.util.regex.Pattern;
 
 /** The public face, the rules of LANGUAGE.md that can be seen from outside, wild arguments, and memory. */
 final class RulesTest {
@@ -21,6 +23,8 @@ final class RulesTest {
         "\\bthrow\\b", "\\bthrows\\b", "\\btry\\b", "\\bcatch\\b", "\\bsynchronized\\b", "\\bassert\\b", "\\bimport\\b", "\\bpackage\\b",
         "->", "::", "Exact\\(", "\\bprotected\\b", "static\\s*\\{", "\\+ *\"", "\" *\\+", "System\\.(?!arraycopy)", "\\bvar\\b", "@"
     };
+    private static final Set<String> LIBRARY = Set.of("Math.min", "Math.max", "Integer.bitCount", "System.arraycopy");
+    private static final int MOST_LINES = 60;
     private static final int BYTES_OF_AN_OBJECT = 16384;
 
     public static void main(String[] args) throws IOException {
@@ -94,9 +98,35 @@ final class RulesTest {
     private static void source(String source) {
         String code = source.replaceAll("(?s)/\\*.*?\\*/", "").replaceAll("//[^\n]*", "");
         for (String word : NOT_ALLOWED) {
-            holds("no " + word, !java.util.regex.Pattern.compile(word).matcher(code).find());
+            holds("no " + word, !Pattern.compile(word).matcher(code).find());
         }
         holds("signs 1 to 127 alone", source.chars().allMatch(sign -> sign > 0 && sign < 128));
+        library(code);
+        lengths(source);
+    }
+
+    /** Names that begin as a class does are classes of the file itself, or stand in LIBRARY with what is called of them. */
+    private static void library(String code) {
+        Set<String> own = new TreeSet<>(Set.of("HatWinds"));
+        for (Class<?> each : HatWinds.class.getDeclaredClasses()) {
+            own.add(each.getSimpleName());
+        }
+        Matcher names = Pattern.compile("\\b[A-Z]\\w*[a-z]\\w*\\b(\\.\\w+)?").matcher(code);
+        while (names.find()) {
+            holds(names.group() + " is of the file or may be used", LIBRARY.contains(names.group()) || own.contains(names.group()));
+        }
+    }
+
+    /** A method begins behind 4 or 8 blanks, and ends by a bracket behind as many. */
+    private static void lengths(String source) {
+        Matcher methods = Pattern.compile("(?m)^( {4}| {8})(?! )[^=;\n]*\\) \\{\n(?s:.*?)^\\1\\}$").matcher(source);
+        int many = 0;
+        while (methods.find()) {
+            String method = methods.group();
+            many++;
+            holds(method.substring(0, method.indexOf('{')).trim() + " is short", method.lines().count() <= MOST_LINES);
+        }
+        holds("most methods are seen, " + many, many >= 60);
     }
 
     private static void constants() {
